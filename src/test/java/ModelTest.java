@@ -14,6 +14,7 @@ public final class ModelTest {
     private static final String[] ASKING = {"read", "told", "rows", "latest", "least", "state", "waits", "ring",
         "conflicts"};
     private static final String[] KEEPING = {"look", "pin", "unpin", "unpin", "free"};
+    private static final int[] TRIPLES = {49, 50, 149, 150, 0, 199, 99, 100, 7, 57, 107, 157, 1, 198};
     private static final int[] ODD = {-1, 60, 61, 200, 4, 199, Integer.MIN_VALUE, Integer.MAX_VALUE};
 
     private static final Map<String, Integer> EVENTS = new TreeMap<>();
@@ -22,7 +23,7 @@ public final class ModelTest {
     private final VersionTrans object = new VersionTrans();
     private final Model model = new Model();
     private final StringBuilder calls = new StringBuilder();
-    private final int triples = 2 + below(12);
+    private final int triples = 2 + below(TRIPLES.length - 1);
     private final int crowd = 2 + below(12);
     private final int ending = 2 + below(12);
 
@@ -91,7 +92,7 @@ public final class ModelTest {
 
     private int secondNumber(String name, int a) {
         boolean isGraph = name.equals("note") || name.equals("conflicts") && a == 1;
-        return isGraph ? below(4) : below(triples) * 37 % 200;
+        return isGraph ? below(4) : TRIPLES[below(triples)];
     }
 
     private static int oneOf(List<Integer> numbers) {

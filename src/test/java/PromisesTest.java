@@ -23,6 +23,7 @@ public final class PromisesTest {
         free();
         rowsAndLatest();
         least();
+        leastOfOneThatWaits();
         state();
         waits();
         ring();
@@ -709,6 +710,22 @@ public final class PromisesTest {
                 told(4, 1) = false
                 told(4, 3) = false
                 """);
+        Runs.check("promise 12: a row that tells not there goes from below a newer one", """
+                begin() = 0
+                put(0, 1, true) = 1
+                commit(0) = 1
+                begin() = 1
+                put(1, 1, false) = 1
+                commit(1) = 2
+                pin(2) = 1
+                begin() = 2
+                put(2, 1, true) = 1
+                commit(2) = 3
+                free() = 2
+                rows() = 1
+                told(2, 1) = false
+                told(3, 1) = true
+                """);
         Runs.check("promise 12: what open, waiting and failed ones see is needed", """
                 begin() = 0
                 put(0, 1, true) = 1
@@ -807,6 +824,25 @@ public final class PromisesTest {
                 least() = 3
                 unpin(3) = 0
                 least() = 4
+                """);
+    }
+
+    private static void leastOfOneThatWaits() {
+        Runs.check("promise 15: one that waits keeps its version alone", """
+                begin() = 0
+                begin() = 1
+                put(0, 1, true) = 1
+                commit(0) = 1
+                begin() = 2
+                put(2, 2, true) = 1
+                least() = 0
+                put(1, 2, true) = 0
+                least() = 0
+                told(0, 1) = false
+                free() = 0
+                abort(1) = 0
+                least() = 1
+                told(0, 1) = throws.IllegalArgumentException
                 """);
     }
 
