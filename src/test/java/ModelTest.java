@@ -56,7 +56,7 @@ public final class ModelTest {
             int b = below(60) == 0 ? ODD[below(ODD.length)] : secondNumber(name, a);
             boolean there = below(3) != 0;
             String want = model.answer(name, a, b, there);
-            String got = Runs.answer(object, name, a, b, there);
+            String got = new Call(name, a, b, there).on(object);
             calls.append('\n').append(name).append('(').append(a).append(", ").append(b).append(", ").append(there)
                     .append(") = ").append(want);
             Runs.due(title, "the last call", got, want);

@@ -1,5 +1,6 @@
 import java.util.ArrayList;
 import java.util.List;
+import java.util.function.IntFunction;
 
 /**
  * Runs of calls on new objects, written as lines "put(0, 5, true) = 1". An exception is written as
@@ -17,30 +18,69 @@ final class Runs {
     }
 
     static void check(String name, String lines) {
-        List<String> calls = new ArrayList<>();
+        List<Call> calls = new ArrayList<>();
         List<String> dues = new ArrayList<>();
         for (String line : lines.strip().split("\n")) {
             String[] sides = line.strip().split(" = ");
-            calls.add(sides[0]);
+            calls.add(Call.parse(sides[0]));
             dues.add(sides[1]);
+        }
+        if (calls.size() > MOST_CALLS) {
+            fail(name + ": has " + calls.size() + " calls, more than are promised");
         }
         checkCalls(name, calls, dues, true);
         // What throws changes nothing, so all else must be answered alike when it is left out.
         checkCalls(name + ", without the calls that throw", calls, dues, false);
+        checkRefused(name, calls, dues);
     }
 
-    private static void checkCalls(String name, List<String> calls, List<String> dues, boolean withThrowing) {
+    /** Each of the lines alone behind the same beginning, so that none of them can help another. */
+    static void checkEach(String name, String beginning, String lines) {
+        for (String line : lines.strip().split("\n")) {
+            check(name + ", " + line.strip(), beginning.strip() + "\n" + line);
+        }
+    }
+
+    private static void checkCalls(String name, List<Call> calls, List<String> dues, boolean withRefused) {
         VersionTrans object = new VersionTrans();
-        int made = 0;
         for (int i = 0; i < calls.size(); i++) {
-            if (withThrowing || !dues.get(i).startsWith("throws.")) {
-                due(name + ", line " + (i + 1), calls.get(i), answer(object, calls.get(i)), dues.get(i));
-                made++;
+            if (withRefused || !isRefusal(dues.get(i))) {
+                due(name + ", line " + (i + 1), calls.get(i).toString(), calls.get(i).on(object), dues.get(i));
             }
         }
-        if (made > MOST_CALLS) {
-            fail(name + ": has " + made + " calls, more than are promised");
+    }
+
+    private static void checkRefused(String name, List<Call> calls, List<String> dues) {
+        List<Call> before = new ArrayList<>();
+        for (int i = 0; i < calls.size(); i++) {
+            if (isRefusal(dues.get(i))) {
+                Unchanged.check(name + ", line " + (i + 1), before, calls.get(i));
+            } else {
+                before.add(calls.get(i));
+            }
         }
+    }
+
+    private static boolean isRefusal(String due) {
+        return due.startsWith("throws.");
+    }
+
+    /** A line for each number from the first one on, below the bound. */
+    static String each(int first, int bound, IntFunction<String> line) {
+        StringBuilder lines = new StringBuilder();
+        for (int number = first; number < bound; number++) {
+            lines.append(line.apply(number)).append('\n');
+        }
+        return lines.toString();
+    }
+
+    /** The call with numbers in the place of # that are below 0 or not below the bound: all are refused. */
+    static String outside(String call, int bound) {
+        StringBuilder lines = new StringBuilder();
+        for (int number : new int[] {-1, bound, bound + 1, Integer.MIN_VALUE, Integer.MAX_VALUE}) {
+            lines.append(call.replace("#", "" + number)).append(" = ").append(ARGUMENT).append('\n');
+        }
+        return lines.toString();
     }
 
     static void due(String where, String call, String got, String want) {
@@ -59,46 +99,6 @@ final class Runs {
         System.out.println(checked + " answers looked at, " + wrong + " wrong");
         if (wrong != 0) {
             System.exit(1);
-        }
-    }
-
-    static String answer(VersionTrans object, String call) {
-        String name = call.substring(0, call.indexOf('('));
-        String inside = call.substring(call.indexOf('(') + 1, call.lastIndexOf(')'));
-        String[] words = inside.isBlank() ? new String[0] : inside.split(",");
-        int[] numbers = new int[3];
-        for (int i = 0; i < words.length; i++) {
-            String word = words[i].strip();
-            numbers[i] = word.equals("true") ? 1 : word.equals("false") ? 0 : Integer.parseInt(word);
-        }
-        return answer(object, name, numbers[0], numbers[1], numbers[2] == 1);
-    }
-
-    static String answer(VersionTrans object, String name, int a, int b, boolean there) {
-        try {
-            return switch (name) {
-                case "begin" -> "" + object.begin();
-                case "look" -> "" + object.look(a);
-                case "put" -> "" + object.put(a, b, there);
-                case "note" -> "" + object.note(a, b);
-                case "read" -> "" + object.read(a, b);
-                case "told" -> "" + object.told(a, b);
-                case "commit" -> "" + object.commit(a);
-                case "abort" -> "" + object.abort(a);
-                case "pin" -> "" + object.pin(a);
-                case "unpin" -> "" + object.unpin(a);
-                case "free" -> "" + object.free();
-                case "rows" -> "" + object.rows();
-                case "latest" -> "" + object.latest();
-                case "least" -> "" + object.least();
-                case "state" -> "" + object.state(a);
-                case "waits" -> "" + object.waits(a);
-                case "ring" -> "" + object.ring(a);
-                case "conflicts" -> "" + object.conflicts(a, b);
-                default -> "no such call";
-            };
-        } catch (RuntimeException e) {
-            return "throws." + e.getClass().getSimpleName();
         }
     }
 }

@@ -1,0 +1,130 @@
+import java.util.ArrayList;
+import java.util.List;
+import java.util.TreeSet;
+
+/**
+ * Whether a refused call changes nothing: of two objects with the same calls behind them one has the
+ * refused call too, and both must answer alike whatever they are asked and whatever is done next. New
+ * objects are made again and again, since each is good for so many calls only.
+ */
+final class Unchanged {
+    private final String where;
+    private final List<Call> before;
+    private final Call refused;
+    private final int transactions;
+    private final int least;
+    private final int latest;
+
+    private Unchanged(String where, List<Call> before, Call refused) {
+        this.where = where;
+        this.before = before;
+        this.refused = refused;
+        transactions = (int) before.stream()
+                .filter(call -> call.name().equals("begin") || call.name().equals("look")).count();
+        VersionTrans object = made(false);
+        least = object.least();
+        latest = object.latest();
+    }
+
+    static void check(String where, List<Call> before, Call refused) {
+        if (before.size() + 1 >= Runs.MOST_CALLS) {
+            return;
+        }
+        Unchanged check = new Unchanged(where, before, refused);
+        check.compareInParts(check.questions());
+        for (Call deed : check.deeds()) {
+            List<Call> after = new ArrayList<>();
+            after.add(deed);
+            after.addAll(check.shortQuestions());
+            check.compare(after.subList(0, Math.min(after.size(), check.room())));
+        }
+    }
+
+    private VersionTrans made(boolean withRefused) {
+        VersionTrans object = new VersionTrans();
+        before.forEach(call -> call.on(object));
+        if (withRefused) {
+            refused.on(object);
+        }
+        return object;
+    }
+
+    private int room() {
+        return Runs.MOST_CALLS - before.size() - 1;
+    }
+
+    private void compareInParts(List<Call> calls) {
+        for (int from = 0; from < calls.size(); from += room()) {
+            compare(calls.subList(from, Math.min(calls.size(), from + room())));
+        }
+    }
+
+    private void compare(List<Call> calls) {
+        VersionTrans without = made(false);
+        VersionTrans with = made(true);
+        for (Call call : calls) {
+            String want = call.on(without);
+            String got = call.on(with);
+            // Only where they differ, since texts for each of so many answers would take long.
+            if (!got.equals(want)) {
+                Runs.due(where + " is refused but changes something", calls.get(0) + " .. " + call, got, want);
+            }
+        }
+    }
+
+    private List<Call> shortQuestions() {
+        List<Call> calls = new ArrayList<>(List.of(Call.of("rows"), Call.of("latest"), Call.of("least")));
+        for (int number = 0; number <= transactions; number++) {
+            calls.add(Call.of("state", number));
+            calls.add(Call.of("waits", number));
+        }
+        return calls;
+    }
+
+    private List<Call> questions() {
+        List<Call> calls = shortQuestions();
+        for (int i = -1; i <= 60; i++) {
+            calls.add(Call.of("ring", i));
+        }
+        for (int graph = 0; graph < 4; graph++) {
+            calls.add(Call.of("conflicts", 1, graph));
+        }
+        for (int triple = 0; triple < 200; triple++) {
+            calls.add(Call.of("conflicts", 0, triple));
+            for (int number = 0; number < transactions; number++) {
+                calls.add(Call.of("read", number, triple));
+            }
+            for (int version = least; version <= latest; version++) {
+                calls.add(Call.of("told", version, triple));
+            }
+        }
+        return calls;
+    }
+
+    private List<Call> deeds() {
+        List<Call> calls = new ArrayList<>(List.of(Call.of("begin"), Call.of("free")));
+        for (int version = 0; version <= latest + 1; version++) {
+            calls.add(Call.of("look", version));
+            calls.add(Call.of("pin", version));
+            calls.add(Call.of("unpin", version));
+        }
+        for (int number = 0; number < transactions; number++) {
+            calls.add(Call.of("commit", number));
+            calls.add(Call.of("abort", number));
+            for (int graph = 0; graph < 4; graph++) {
+                calls.add(Call.of("note", number, graph));
+            }
+            for (int triple : someTriples()) {
+                calls.add(new Call("put", number, triple, true));
+            }
+        }
+        return calls;
+    }
+
+    private TreeSet<Integer> someTriples() {
+        TreeSet<Integer> triples = new TreeSet<>(List.of(0, 199));
+        before.stream().filter(call -> call.name().equals("put") && triples.size() < 12)
+                .forEach(call -> triples.add(call.b()));
+        return triples;
+    }
+}
