@@ -31,6 +31,7 @@ public final class TermsTest {
         failed();
         kept();
         thrown();
+        thrownAmongWaits();
         Runs.end();
     }
 
@@ -751,7 +752,7 @@ public final class TermsTest {
                 """);
     }
 
-    /** Transactions in every state, so that each call can be tried on each of them. */
+    /** Transactions in every state, so that each call can be tried on each of them; 9 waits behind 1. */
     private static final String IN_EVERY_STATE = """
             begin() = 0
             begin() = 1
@@ -762,6 +763,7 @@ public final class TermsTest {
             look(0) = 6
             look(0) = 7
             look(0) = 8
+            begin() = 9
             put(0, 10, true) = 1
             put(1, 11, true) = 1
             put(2, 12, true) = 1
@@ -774,6 +776,7 @@ public final class TermsTest {
             put(5, 10, true) = 0
             put(0, 15, true) = 1
             put(1, 10, true) = 0
+            put(9, 10, true) = 0
             commit(7) = 0
             abort(8) = 0
             """;
@@ -781,24 +784,72 @@ public final class TermsTest {
     private static void thrown() {
         String title = "thrown: IllegalArgumentException .. else IllegalStateException";
         String state = Runs.STATE;
-        String[] reads = {"true", "false", "false", state, state, state, "false", state, state};
-        String[] commits = {"2", state, "0", state, state, state, "0", state, state};
-        String[] aborts = {"2", "1", "1", state, state, state, "0", state, state};
-        int[] states = {0, 1, 2, 3, 4, 4, 0, 3, 4};
-        for (int number = 0; number < 9; number++) {
-            int n = number;
+        String[] reads = {"true", "false", "false", state, state, state, "false", state, state, "false"};
+        String[] commits = {"2", state, "0", state, state, state, "0", state, state, state};
+        String[] aborts = {"2", "1", "1", state, state, state, "0", state, state, "0"};
+        int[] states = {0, 1, 2, 3, 4, 4, 0, 3, 4, 1};
+        for (int n = 0; n < 10; n++) {
             String writes = n == 0 ? "1" : state;
-            Runs.checkEach(title, IN_EVERY_STATE, "put(" + n + ", 30, true) = " + writes + "\nnote(" + n + ", 0) = "
-                    + writes + "\nread(" + n + ", 10) = " + reads[n] + "\ncommit(" + n + ") = " + commits[n]
-                    + "\nabort(" + n + ") = " + aborts[n] + "\nstate(" + n + ") = " + states[n] + "\nwaits(" + n
-                    + ") = " + (n == 1 ? 0 : -1));
+            Runs.checkEach(title, IN_EVERY_STATE, """
+                    put(%1$d, 30, true) = %2$s
+                    put(%1$d, 10, false) = %2$s
+                    note(%1$d, 0) = %2$s
+                    read(%1$d, 10) = %3$s
+                    commit(%1$d) = %4$s
+                    abort(%1$d) = %5$s
+                    state(%1$d) = %6$d
+                    waits(%1$d) = %7$d
+                    """.formatted(n, writes, reads[n], commits[n], aborts[n], states[n], n == 1 || n == 9 ? 0 : -1));
             Runs.checkEach(title, IN_EVERY_STATE, Runs.outside("put(" + n + ", #, true)", 200)
                     + Runs.outside("note(" + n + ", #)", 4) + Runs.outside("read(" + n + ", #)", 200));
         }
-        Runs.checkEach(title, IN_EVERY_STATE, Runs.outside("put(#, 0, true)", 9) + Runs.outside("note(#, 0)", 9)
-                + Runs.outside("read(#, 0)", 9) + Runs.outside("commit(#)", 9) + Runs.outside("abort(#)", 9)
-                + Runs.outside("state(#)", 9) + Runs.outside("waits(#)", 9) + Runs.outside("look(#)", 2)
+        Runs.checkEach(title, IN_EVERY_STATE, Runs.outside("put(#, 0, true)", 10) + Runs.outside("note(#, 0)", 10)
+                + Runs.outside("read(#, 0)", 10) + Runs.outside("commit(#)", 10) + Runs.outside("abort(#)", 10)
+                + Runs.outside("state(#)", 10) + Runs.outside("waits(#)", 10) + Runs.outside("look(#)", 2)
                 + Runs.outside("told(#, 0)", 2) + Runs.outside("pin(#)", 2) + Runs.outside("unpin(#)", 0)
                 + Runs.outside("conflicts(#, 0)", 2));
+    }
+
+    private static void thrownAmongWaits() {
+        String refused = """
+                put(1, 10, false) = throws.IllegalStateException
+                put(1, 11, true) = throws.IllegalStateException
+                put(1, 200, true) = throws.IllegalArgumentException
+                put(4, 10, true) = throws.IllegalStateException
+                put(5, 10, true) = throws.IllegalArgumentException
+                note(1, 0) = throws.IllegalStateException
+                note(0, 4) = throws.IllegalArgumentException
+                commit(1) = throws.IllegalStateException
+                commit(5) = throws.IllegalArgumentException
+                abort(-1) = throws.IllegalArgumentException
+                read(1, 200) = throws.IllegalArgumentException
+                state(5) = throws.IllegalArgumentException
+                waits(5) = throws.IllegalArgumentException
+                look(1) = throws.IllegalArgumentException
+                told(1, 10) = throws.IllegalArgumentException
+                pin(1) = throws.IllegalArgumentException
+                unpin(0) = throws.IllegalArgumentException
+                conflicts(2, 0) = throws.IllegalArgumentException
+                """;
+        Runs.check("thrown: nothing is changed then, nor who began to wait first, nor with which write", """
+                begin() = 0
+                begin() = 1
+                begin() = 2
+                begin() = 3
+                look(0) = 4
+                put(0, 10, true) = 1
+                put(1, 10, true) = 0
+                """ + refused + "put(3, 10, true) = 0\n" + refused + "put(2, 10, true) = 0\n" + refused + """
+                abort(0) = 1
+                state(1) = 0
+                read(1, 10) = true
+                waits(3) = 1
+                waits(2) = 1
+                abort(1) = 1
+                state(3) = 0
+                waits(2) = 3
+                commit(3) = 1
+                state(2) = 2
+                """);
     }
 }

@@ -12,6 +12,7 @@ final class Unchanged {
     private final List<Call> before;
     private final Call refused;
     private final int transactions;
+    private final TreeSet<Integer> triples = new TreeSet<>(List.of(0, 199));
     private final int least;
     private final int latest;
 
@@ -21,6 +22,8 @@ final class Unchanged {
         this.refused = refused;
         transactions = (int) before.stream()
                 .filter(call -> call.name().equals("begin") || call.name().equals("look")).count();
+        before.stream().filter(call -> call.name().equals("put") && triples.size() < 12)
+                .forEach(call -> triples.add(call.b()));
         VersionTrans object = made(false);
         least = object.least();
         latest = object.latest();
@@ -31,12 +34,14 @@ final class Unchanged {
             return;
         }
         Unchanged check = new Unchanged(where, before, refused);
-        check.compareInParts(check.questions());
+        check.compareInParts(check.states());
+        check.compareInParts(check.counts());
+        check.compareInParts(check.contents());
         for (Call deed : check.deeds()) {
-            List<Call> after = new ArrayList<>();
-            after.add(deed);
-            after.addAll(check.shortQuestions());
-            check.compare(after.subList(0, Math.min(after.size(), check.room())));
+            check.compareFirst(deed, check.states());
+        }
+        for (Call deed : check.deeds()) {
+            check.compareFirst(deed, check.someReads());
         }
     }
 
@@ -59,6 +64,12 @@ final class Unchanged {
         }
     }
 
+    private void compareFirst(Call deed, List<Call> questions) {
+        List<Call> calls = new ArrayList<>(List.of(deed));
+        calls.addAll(questions);
+        compare(calls.subList(0, Math.min(calls.size(), room())));
+    }
+
     private void compare(List<Call> calls) {
         VersionTrans without = made(false);
         VersionTrans with = made(true);
@@ -72,18 +83,18 @@ final class Unchanged {
         }
     }
 
-    private List<Call> shortQuestions() {
+    private List<Call> states() {
         List<Call> calls = new ArrayList<>(List.of(Call.of("rows"), Call.of("latest"), Call.of("least")));
-        for (int number = 0; number <= transactions; number++) {
+        for (int number = 0; number < transactions; number++) {
             calls.add(Call.of("state", number));
             calls.add(Call.of("waits", number));
         }
         return calls;
     }
 
-    private List<Call> questions() {
-        List<Call> calls = shortQuestions();
-        for (int i = -1; i <= 60; i++) {
+    private List<Call> counts() {
+        List<Call> calls = new ArrayList<>();
+        for (int i = 0; i <= 60; i++) {
             calls.add(Call.of("ring", i));
         }
         for (int graph = 0; graph < 4; graph++) {
@@ -91,11 +102,32 @@ final class Unchanged {
         }
         for (int triple = 0; triple < 200; triple++) {
             calls.add(Call.of("conflicts", 0, triple));
+        }
+        return calls;
+    }
+
+    private List<Call> contents() {
+        List<Call> calls = new ArrayList<>();
+        for (int triple = 0; triple < 200; triple++) {
+            for (int version = least; version <= latest; version++) {
+                calls.add(Call.of("told", version, triple));
+            }
+        }
+        for (int triple = 0; triple < 200; triple++) {
             for (int number = 0; number < transactions; number++) {
                 calls.add(Call.of("read", number, triple));
             }
-            for (int version = least; version <= latest; version++) {
-                calls.add(Call.of("told", version, triple));
+        }
+        return calls;
+    }
+
+    private List<Call> someReads() {
+        List<Call> calls = new ArrayList<>();
+        for (int triple : triples) {
+            calls.add(Call.of("told", latest, triple));
+            calls.add(Call.of("told", latest + 1, triple));
+            for (int number = 0; number < transactions; number++) {
+                calls.add(Call.of("read", number, triple));
             }
         }
         return calls;
@@ -114,17 +146,10 @@ final class Unchanged {
             for (int graph = 0; graph < 4; graph++) {
                 calls.add(Call.of("note", number, graph));
             }
-            for (int triple : someTriples()) {
+            for (int triple : triples) {
                 calls.add(new Call("put", number, triple, true));
             }
         }
         return calls;
-    }
-
-    private TreeSet<Integer> someTriples() {
-        TreeSet<Integer> triples = new TreeSet<>(List.of(0, 199));
-        before.stream().filter(call -> call.name().equals("put") && triples.size() < 12)
-                .forEach(call -> triples.add(call.b()));
-        return triples;
     }
 }
