@@ -1,11 +1,16 @@
+import java.io.IOException;
 import java.lang.reflect.Constructor;
 import java.lang.reflect.Executable;
 import java.lang.reflect.Field;
 import java.lang.reflect.Method;
 import java.lang.reflect.Modifier;
+import java.nio.file.Files;
+import java.nio.file.Path;
 import java.util.Arrays;
 import java.util.Set;
 import java.util.TreeSet;
+import java.util.regex.Matcher;
+import java.util.regex.Pattern;
 import java.util.stream.Collectors;
 
 /** The face of the document, all of it and nothing beside it (LANGUAGE.md, rules 1 and 5). */
@@ -18,10 +23,16 @@ public final class FaceTest {
             "int unpin(int)" + A, "int free()", "int rows()", "int latest()", "int least()", "int state(int)" + A,
             "int waits(int)" + A, "int ring(int)", "int conflicts(int,int)" + A);
 
+    private static final Pattern METHOD = Pattern.compile(
+            "(?<type>\\w+) (?<name>\\w+)\\((?<parameters>[^)]*)\\)(?: throws (?<thrown>[\\w, ]+))?");
+
     private FaceTest() {
     }
 
-    public static void main(String[] args) {
+    public static void main(String[] args) throws IOException {
+        String document = Files.readString(Path.of("..", "shared", "DOC.md"));
+        due("the methods of the document's code block", said(document, "    public (\\w+ \\w+\\(.*);"));
+        due("the methods of the document's promises", said(document, "`(\\w+ \\w+\\(.*)`:.*"));
         Class<?> face = VersionTrans.class;
         due("the class", Modifier.toString(face.getModifiers()), "public final");
         due("the package", face.getPackageName(), "");
@@ -37,7 +48,7 @@ public final class FaceTest {
                 openNames.add(method.getName());
             }
         }
-        due("the methods", open.toString(), new TreeSet<>(FACE).toString());
+        due("the methods", open);
         hiddenNames.retainAll(openNames);
         due("private methods with a name of the face", hiddenNames.toString(), "[]");
         for (Constructor<?> constructor : face.getDeclaredConstructors()) {
@@ -54,12 +65,31 @@ public final class FaceTest {
         Runs.end();
     }
 
+    /** The methods in those lines of the document, written as the class's own are. */
+    private static TreeSet<String> said(String document, String line) {
+        TreeSet<String> methods = new TreeSet<>();
+        Matcher lines = Pattern.compile("^" + line + "$", Pattern.MULTILINE).matcher(document);
+        while (lines.find()) {
+            Matcher method = METHOD.matcher(lines.group(1));
+            if (method.matches()) {
+                String thrown = method.group("thrown") == null ? "" : " " + method.group("thrown").replace(",", "");
+                methods.add(method.group("type") + " " + method.group("name") + "("
+                        + method.group("parameters").replaceAll("(\\w+) \\w+", "$1").replace(" ", "") + ")" + thrown);
+            }
+        }
+        return methods;
+    }
+
     private static String inside(Executable executable) {
         String parameters = Arrays.stream(executable.getParameterTypes()).map(Class::getName)
                 .collect(Collectors.joining(","));
         String thrown = Arrays.stream(executable.getExceptionTypes()).map(type -> " " + type.getSimpleName())
                 .collect(Collectors.joining());
         return "(" + parameters + ")" + thrown;
+    }
+
+    private static void due(String what, TreeSet<String> methods) {
+        due(what, methods.toString(), new TreeSet<>(FACE).toString());
     }
 
     private static void due(String what, String got, String want) {
