@@ -1,5 +1,4 @@
 import java.io.IOException;
-import java.nio.file.Path;
 
 /**
  * The document from its first line to its last, each sentence (or each part of a long one) with runs that
@@ -16,7 +15,7 @@ public final class SentencesTest {
     }
 
     public static void main(String[] args) throws IOException {
-        document = new Document(Path.of("..", "shared", "DOC.md"));
+        document = new Document();
         document.says("# VersionTrans");
         whatItIs();
         under("The public face");
